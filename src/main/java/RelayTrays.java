@@ -152,13 +152,24 @@ public final class RelayTrays {
         Act act = actNumbered(number);
         while (act != null && steps < MOST_STEPS) {
             steps++;
-            cause = begin(act, number);
+            goesOnAt = number + 1;
+            cause = perform(act);
+            if (cause != NO_CAUSE) {
+                countCause(cause);
+                causeAct = number;
+                goesOnAt = act.e;
+            }
             number = goesOnAt;
             act = actNumbered(number);
         }
-        runs++;
         stepsBegun = steps;
-        if (act != null) {
+        return answerOfRun(act != null, cause);
+    }
+
+    /** The cause is that of the last step: a run that went on behind one is not over by it. */
+    private int answerOfRun(boolean wouldGoOn, int cause) {
+        runs++;
+        if (wouldGoOn) {
             runsSpent++;
             return SPENT;
         }
@@ -166,7 +177,7 @@ public final class RelayTrays {
             runsOverByCause++;
             return -BEFORE_CAUSES - cause;
         }
-        return steps;
+        return stepsBegun;
     }
 
     public int begun() {
@@ -190,13 +201,13 @@ public final class RelayTrays {
             case 4:
                 return runsSpent;
             default:
-                return timesMetOr(BAD, what);
+                return countOfCause(what);
         }
     }
 
-    private int timesMetOr(int otherwise, int what) {
+    private int countOfCause(int what) {
         if (what < BEFORE_CAUSES + NOTHING || what > BEFORE_CAUSES + WIDE) {
-            return otherwise;
+            return BAD;
         }
         return timesMet[what - BEFORE_CAUSES];
     }
@@ -233,17 +244,6 @@ public final class RelayTrays {
 
     // ---- acts: each answers the cause that it met, and has then changed nothing
 
-    private int begin(Act act, int number) {
-        goesOnAt = number + 1;
-        int cause = perform(act);
-        if (cause != NO_CAUSE) {
-            countCause(cause);
-            causeAct = number;
-            goesOnAt = act.e;
-        }
-        return cause;
-    }
-
     private int perform(Act act) {
         switch (act.what) {
             case Act.TAKE:
@@ -251,7 +251,7 @@ public final class RelayTrays {
             case Act.READ:
                 return readNumber(trays[act.tray], point + act.a, act.kind);
             case Act.LAY:
-                return layHand(trays[act.tray], point + act.a);
+                return layNumber(trays[act.tray], point + act.a, handKind, handBits);
             case Act.COUNT:
                 return countPlaces(trays[act.tray]);
             case Act.MAKE:
@@ -318,19 +318,13 @@ public final class RelayTrays {
         return NO_CAUSE;
     }
 
-    private int layHand(Row row, int place) {
-        if (row == null) {
-            return NOTHING;
-        }
-        if (handKind == NONE) {
-            return BARE;
-        }
-        return layNumber(row, place, handKind, handBits);
-    }
-
+    /** What comes from a bare hand is of kind NONE. */
     private int layNumber(Row row, int place, int kind, long bits) {
         if (row == null) {
             return NOTHING;
+        }
+        if (kind == NONE) {
+            return BARE;
         }
         if (!row.hasPlace(place)) {
             return PLACE;
@@ -403,12 +397,13 @@ public final class RelayTrays {
         if (handKind == NONE) {
             return BARE;
         }
-        long bitsThere = row.places[place];
-        int cause = layNumber(row, place, handKind, handBits);
-        if (cause == NO_CAUSE) {
-            carry(row.kind, bitsThere);
+        if (!Numbers.goesInto(handKind, row.kind)) {
+            return MISFIT;
         }
-        return cause;
+        long bitsThere = row.places[place];
+        row.places[place] = Numbers.turned(handKind, row.kind, handBits);
+        carry(row.kind, bitsThere);
+        return NO_CAUSE;
     }
 
     private void carry(int kind, long bits) {
@@ -462,10 +457,16 @@ public final class RelayTrays {
         static final int[] GOES_INTO = {
             0b00000001, 0b11110110, 0b11110100, 0b11111000, 0b11110000, 0b11100000, 0b11000000, 0b10000000};
 
-        static final int FLOAT_FRACTION = 23, FLOAT_BIAS = 127, FLOAT_SIGN = 31, FLOAT_TOP_EXPONENT = 255;
+        static final int FLOAT_FRACTION = 23, FLOAT_BIAS = 127, FLOAT_SIGN = 31;
         static final int DOUBLE_FRACTION = 52, DOUBLE_BIAS = 1023, DOUBLE_SIGN = 63;
+        static final long FLOAT_MAGNITUDE = 0x7fffffffL, DOUBLE_MAGNITUDE = 0x7fffffffffffffffL;
         static final long FLOAT_INFINITE = 0x7f800000L, FLOAT_NO_NUMBER = 2143289344L;
         static final long DOUBLE_INFINITE = 0x7ff0000000000000L, DOUBLE_NO_NUMBER = 9221120237041090560L;
+
+        /** What the exponent of a double is raised by above that of the same float. */
+        static final long BIAS_APART = (long) (DOUBLE_BIAS - FLOAT_BIAS) << DOUBLE_FRACTION;
+        /** What the exponent of a double falls by from 1 to the smallest float. */
+        static final long SMALLEST_FLOAT_POWER = (long) (FLOAT_BIAS - 1 + FLOAT_FRACTION) << DOUBLE_FRACTION;
 
         static boolean isKind(int kind) {
             return kind >= TRUTHS && kind <= DOUBLES;
@@ -489,9 +490,9 @@ public final class RelayTrays {
                 case INTS:
                     return (int) bits;
                 case FLOATS:
-                    return (bits & 0x7fffffffL) > FLOAT_INFINITE ? FLOAT_NO_NUMBER : (int) bits;
+                    return (bits & FLOAT_MAGNITUDE) > FLOAT_INFINITE ? FLOAT_NO_NUMBER : (int) bits;
                 case DOUBLES:
-                    return (bits & Long.MAX_VALUE) > DOUBLE_INFINITE ? DOUBLE_NO_NUMBER : bits;
+                    return (bits & DOUBLE_MAGNITUDE) > DOUBLE_INFINITE ? DOUBLE_NO_NUMBER : bits;
                 default:
                     return bits;
             }
@@ -525,7 +526,7 @@ public final class RelayTrays {
             return whole < 0L ? bits | -1L << sign : bits;
         }
 
-        /** Without its lowest digits, 1 to 62 of them, rounded; of two as near the even one. */
+        /** Without its lowest digits (at least one is lost), rounded; of two as near the even one. */
         static long shortened(long magnitude, int lost) {
             long kept = magnitude >>> lost;
             long rest = magnitude & ((1L << lost) - 1L);
@@ -535,30 +536,21 @@ public final class RelayTrays {
         }
 
         static long doubleOfFloat(long told) {
-            if (told == FLOAT_NO_NUMBER) {
+            long magnitude = told & FLOAT_MAGNITUDE;
+            long bits;
+            if (magnitude == 0L) {
+                bits = 0L;
+            } else if (magnitude < 1L << FLOAT_FRACTION) {
+                // such small floats have no leading 1: they are whole numbers of the smallest one
+                bits = nearest(magnitude, DOUBLE_FRACTION, DOUBLE_BIAS, DOUBLE_SIGN) - SMALLEST_FLOAT_POWER;
+            } else if (magnitude < FLOAT_INFINITE) {
+                bits = (magnitude << (DOUBLE_FRACTION - FLOAT_FRACTION)) + BIAS_APART;
+            } else if (magnitude == FLOAT_INFINITE) {
+                bits = DOUBLE_INFINITE;
+            } else {
                 return DOUBLE_NO_NUMBER;
             }
-            int exponent = (int) (told >> FLOAT_FRACTION) & FLOAT_TOP_EXPONENT;
-            long digits = told & ((1L << FLOAT_FRACTION) - 1L);
-            long bits;
-            if (exponent == FLOAT_TOP_EXPONENT) {
-                bits = DOUBLE_INFINITE;
-            } else if (exponent == 0) {
-                bits = doubleOfSmallFloat(digits);
-            } else {
-                long raised = (long) (exponent - FLOAT_BIAS + DOUBLE_BIAS) << DOUBLE_FRACTION;
-                bits = raised | digits << (DOUBLE_FRACTION - FLOAT_FRACTION);
-            }
             return told < 0L ? bits | -1L << DOUBLE_SIGN : bits;
-        }
-
-        /** A float of the lowest exponent is its digits times a power of two, without a leading 1. */
-        static long doubleOfSmallFloat(long digits) {
-            if (digits == 0L) {
-                return 0L;
-            }
-            long power = FLOAT_BIAS - 1 + FLOAT_FRACTION;
-            return nearest(digits, DOUBLE_FRACTION, DOUBLE_BIAS, DOUBLE_SIGN) - (power << DOUBLE_FRACTION);
         }
     }
 }

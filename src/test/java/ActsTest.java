@@ -191,6 +191,7 @@ public final class ActsTest {
         DUE.due("CLEAR", act(x, CLEAR, 0, 7, 7), 1);
         DUE.due("kind(0)", x.kind(0), NONE);
         DUE.due("kind(7)", x.kind(7), 1);
+        DUE.due("point() behind CLEAR", x.point(), 0);
         DUE.due("CLEAR of nothing", act(x, CLEAR, 0, 0, 0), 1);
         DUE.due("rows made are counted still", x.count(0), 5);
     }
