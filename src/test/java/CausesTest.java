@@ -1,4 +1,3 @@
-import java.util.HashMap;
 import java.util.Map;
 import java.util.function.Consumer;
 
@@ -396,46 +395,31 @@ public final class CausesTest {
 
     private static void changes() {
         Twins twins = new Twins(DUE, laidOut(2));
-        twins.actChanges("TAKE", TAKE, BYTES, 1, 7, answers("hand()", 1, "seen() of the hand", 100));
-        twins.actChanges("READ", READ, BYTES, 1, 4, answers("hand()", 4, "seen() of the hand", 100));
-        twins.actChanges("LAY", LAY, LONGS, 1, 7, answers("seen() behind look(5, 1)", 1));
-        twins.actChanges("COUNT", COUNT, LONGS, 1, 7, answers("hand()", 4, "seen() of the hand", 2));
-        twins.actChanges("PASS", PASS, NO_ROW, 1, 7, answers(
+        twins.actChanges("TAKE", TAKE, BYTES, 1, 7, State.answers("hand()", 1, "seen() of the hand", 100));
+        twins.actChanges("READ", READ, BYTES, 1, 4, State.answers("hand()", 4, "seen() of the hand", 100));
+        twins.actChanges("LAY", LAY, LONGS, 1, 7, State.answers("seen() behind look(5, 1)", 1));
+        twins.actChanges("COUNT", COUNT, LONGS, 1, 7, State.answers("hand()", 4, "seen() of the hand", 2));
+        twins.actChanges("PASS", PASS, NO_ROW, 1, 7, State.answers(
             "kind(0)", 1, "size(0)", 2, "same(1, 0)", 1, "look(0, 0)", 1, "seen() behind look(0, 0)", -5,
             "look(0, 1)", 1, "seen() behind look(0, 1)", 100));
-        twins.actChanges("GO", GO, BYTES, 1, 7, answers("point()", 1));
-        twins.actChanges("SET", SET, BYTES, 1, 7, answers("point()", 1));
-        twins.actChanges("WHILE", WHILE, BYTES, 1, 7, answers());
-        twins.actChanges("ADD", ADD, BYTES, 1, 7, answers("hand()", 5, "seen() of the hand", 101));
-        twins.actChanges("SWAP", SWAP, LONGS, 0, 7, answers(
+        twins.actChanges("GO", GO, BYTES, 1, 7, State.answers("point()", 1));
+        twins.actChanges("SET", SET, BYTES, 1, 7, State.answers("point()", 1));
+        twins.actChanges("WHILE", WHILE, BYTES, 1, 7, State.answers());
+        twins.actChanges("ADD", ADD, BYTES, 1, 7, State.answers("hand()", 5, "seen() of the hand", 101));
+        twins.actChanges("SWAP", SWAP, LONGS, 0, 7, State.answers(
             "hand()", 5, "seen() of the hand", 1L << 40, "seen() behind look(5, 0)", 1));
-        twins.actChanges("JUMP", JUMP, BYTES, 1, 7, answers());
-        Map<String, Long> made = answers("kind(1)", 7, "size(1)", 1, "look(1, 0)", 7, "seen() behind look(1, 0)", 0);
-        made.putAll(gone("look(1, 1)", "seen() behind look(1, 1)"));
+        twins.actChanges("JUMP", JUMP, BYTES, 1, 7, State.answers());
+        Map<String, Long> made = State.answers(
+            "kind(1)", 7, "size(1)", 1, "look(1, 0)", 7, "seen() behind look(1, 0)", 0);
+        made.putAll(State.gone("look(1, 1)", "seen() behind look(1, 1)"));
         made.put(State.count(0), 8L);
         twins.actChanges("MAKE", MAKE, BYTES, 1, 7, made);
-        Map<String, Long> cleared = answers("kind(1)", NONE, "size(1)", NONE, "same(1, 0)", 1);
-        cleared.putAll(gone("look(1, 0)", "look(1, 1)", "seen() behind look(1, 0)", "seen() behind look(1, 1)"));
+        Map<String, Long> cleared = State.answers("kind(1)", NONE, "size(1)", NONE, "same(1, 0)", 1);
+        cleared.putAll(State.gone("look(1, 0)", "look(1, 1)", "seen() behind look(1, 0)", "seen() behind look(1, 1)"));
         twins.actChanges("CLEAR", CLEAR, BYTES, 1, 7, cleared);
-        Map<String, Long> dropped = answers("hand()", NONE);
-        dropped.putAll(gone("seen() of the hand"));
+        Map<String, Long> dropped = State.answers("hand()", NONE);
+        dropped.putAll(State.gone("seen() of the hand"));
         twins.actChanges("DROP", DROP, BYTES, 1, 7, dropped);
-    }
-
-    private static Map<String, Long> answers(Object... questionsAndAnswers) {
-        Map<String, Long> all = new HashMap<>();
-        for (int i = 0; i < questionsAndAnswers.length; i += 2) {
-            all.put((String) questionsAndAnswers[i], ((Number) questionsAndAnswers[i + 1]).longValue());
-        }
-        return all;
-    }
-
-    private static Map<String, Long> gone(String... questions) {
-        Map<String, Long> all = new HashMap<>();
-        for (String question : questions) {
-            all.put(question, null);
-        }
-        return all;
     }
 
     // ---- the bounds of a new row, by make() too

@@ -32,6 +32,24 @@ final class State {
         return "count(" + what + ")";
     }
 
+    /** Questions and their answers by turns. */
+    static Map<String, Long> answers(Object... questionsAndAnswers) {
+        Map<String, Long> all = new LinkedHashMap<>();
+        for (int i = 0; i < questionsAndAnswers.length; i += 2) {
+            all.put((String) questionsAndAnswers[i], ((Number) questionsAndAnswers[i + 1]).longValue());
+        }
+        return all;
+    }
+
+    /** Questions that a state has no more. */
+    static Map<String, Long> gone(String... questions) {
+        Map<String, Long> all = new LinkedHashMap<>();
+        for (String question : questions) {
+            all.put(question, null);
+        }
+        return all;
+    }
+
     private static void tray(RelayTrays x, int tray, Map<String, Long> state) {
         state.put("kind(" + tray + ")", (long) x.kind(tray));
         int size = x.size(tray);

@@ -28,6 +28,16 @@ final class Twins {
         due.alike(call + ", then run()", State.of(asked), State.of(other));
     }
 
+    /** A call that is done: it changes what is told here, and nothing else; null is gone. */
+    void callChanges(String call, ToLongFunction<RelayTrays> question, long answer, Map<String, Long> changes) {
+        RelayTrays asked = one();
+        Map<String, Long> want = State.of(one());
+        due.due(call, question.applyAsLong(asked), answer);
+        want.putAll(changes);
+        want.values().removeIf(value -> value == null);
+        due.alike(call, State.of(asked), want);
+    }
+
     /** make(), put() or look() that meets a cause: it is counted, and nothing else is changed. */
     void callMeets(String call, ToLongFunction<RelayTrays> question, int cause) {
         RelayTrays asked = one();
